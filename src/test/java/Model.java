@@ -688,4 +688,23 @@ final class Model {
     int heatCount() {
         return heats.size();
     }
+
+    int eventsOver() {
+        int over = 0;
+        for (ModelEvent event : events) {
+            over += event.rounds.size() == 5 && !heats.get(event.rounds.get(4).get(0)).open ? 1 : 0;
+        }
+        return over;
+    }
+
+    int sentOut() {
+        int out = 0;
+        for (ModelHeat heat : heats) {
+            State state = stateOf(heat);
+            for (int surfer : heat.who) {
+                out += Collections.frequency(state.p, surfer) + Collections.frequency(state.n, surfer) > 1 ? 1 : 0;
+            }
+        }
+        return out;
+    }
 }

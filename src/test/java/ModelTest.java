@@ -24,6 +24,7 @@ final class ModelTest {
     private int heats;
     private int events;
     private int typed;
+    private int callsOfHeat = 20;
     private boolean isSame = true;
 
     private ModelTest(int seed) {
@@ -39,7 +40,13 @@ final class ModelTest {
         }
         for (String name : OF_PROGRAM.keySet()) {
             Check.yes(name + " was answered in some run", runs < 200 || SEEN.getOrDefault(name + " ok", 0) > 0);
+            for (Class<?> thrown : OF_PROGRAM.get(name).getExceptionTypes()) {
+                String refusal = name + " " + thrown.getSimpleName();
+                Check.yes(refusal + " was seen in some run", runs < 200 || SEEN.getOrDefault(refusal, 0) > 0);
+            }
         }
+        Check.yes("events ended in some run", runs < 200 || SEEN.getOrDefault("events over", 0) > 0);
+        Check.yes("surfers were sent out in some run", runs < 200 || SEEN.getOrDefault("sent out", 0) > 0);
         if (Boolean.getBoolean("seen")) {
             System.out.println(SEEN);
         }
@@ -118,6 +125,12 @@ final class ModelTest {
     private void play() {
         int profile = seed % 4;
         boolean isCalm = profile != 1;
+        if (profile == 3) {
+            callsOfHeat = 80;
+        }
+        if (oneIn(3)) {
+            sums();
+        }
         int rise = 1 + upTo(3);
         for (int i = 0; i < rise; i++) {
             addSwell(isCalm);
@@ -141,18 +154,20 @@ final class ModelTest {
                 mixed();
             }
         }
+        SEEN.merge("events over", model.eventsOver(), Integer::sum);
+        SEEN.merge("sent out", model.sentOut(), Integer::sum);
     }
 
     private void mixed() {
         int kind = upTo(20);
-        if (kind == 0) {
+        if (heats == 0 || oneIn(callsOfHeat)) {
+            addHeat();
+        } else if (kind == 0) {
             type();
         } else if (kind == 1) {
             addSurfer();
         } else if (kind == 2) {
             sea();
-        } else if (kind == 3 || heats == 0) {
-            addHeat();
         } else if (kind == 4) {
             tour();
         } else if (kind == 5) {
@@ -162,7 +177,7 @@ final class ModelTest {
         } else if (kind < 9) {
             ask(upTo(heats));
         } else {
-            act(oneIn(4) ? upTo(heats) : Math.max(0, heats - 1 - upTo(2)));
+            act(oneIn(8) ? upTo(heats) : Math.max(0, heats - 1 - upTo(callsOfHeat == 80 ? 1 : 2)));
         }
     }
 
@@ -224,7 +239,8 @@ final class ModelTest {
         if (oneIn(20)) {
             who = among(0, 1, 31, 1 << surfers | 1, -1, Integer.MIN_VALUE, wild());
         }
-        if (number(call("heat", oneOf(banks), oneIn(3) ? inRange(0, 99939) : upTo(100), inRange(10, 60), who)) >= 0) {
+        if (number(call("heat", oneOf(banks), oneIn(3) ? inRange(0, 99939) : upTo(100), 
+                oneIn(2) ? 60 : inRange(10, 60), who)) >= 0) {
             heats++;
         }
     }
@@ -233,11 +249,17 @@ final class ModelTest {
         if (oneIn(25)) {
             return oneOf(surfers);
         }
-        try {
-            return model.surferAt(heat, upTo(4));
-        } catch (RuntimeException none) {
-            return oneOf(surfers);
+        for (int i = 0; i < 9; i++) {
+            try {
+                int surfer = model.surferAt(heat, upTo(4));
+                if (oneIn(12) || model.place(heat, surfer) != -2) {
+                    return surfer;
+                }
+            } catch (RuntimeException none) {
+                continue;
+            }
         }
+        return oneOf(surfers);
     }
 
     /** The minute of the last act, or one a little behind; with a wave, if that is asked for and there is one. */
@@ -251,7 +273,7 @@ final class ModelTest {
         if (oneIn(30)) {
             return among(latest - 1, latest + 60, wild());
         }
-        int minute = oneIn(2) ? latest : latest + upTo(oneIn(4) ? 15 : 3);
+        int minute = oneIn(3) ? latest : latest + 1 + upTo(oneIn(6) ? 15 : 3);
         for (int i = 0; i < 20 && hasWave && !oneIn(30); i++) {
             if (waveIn(heat, minute)) {
                 return minute;
@@ -275,7 +297,11 @@ final class ModelTest {
         int kind = upTo(40);
         if (kind < 16) {
             int marks = oneIn(20) ? among(-1, typed - 4, typed, wild()) : upTo(typed - 4);
-            call("ride", heat, surfer, someMinute(heat, true), marks, oneIn(2));
+            int minute = someMinute(heat, true);
+            call("ride", heat, surfer, minute, marks, oneIn(2));
+            if (oneIn(2)) {
+                call("ride", heat, someoneOf(heat), minute, upTo(typed - 4), !oneIn(3));
+            }
         } else if (kind < 22) {
             call("miss", heat, surfer, someMinute(heat, true));
         } else if (kind < 27) {
@@ -287,7 +313,7 @@ final class ModelTest {
         } else if (kind < 34) {
             call("restart", heat, someMinute(heat, false));
         } else if (kind == 34 && oneIn(3)) {
-            call("close", heat);
+            call("close", oneIn(9) ? oneOf(heats) : heat);
         }
         ask(heat);
     }
@@ -299,7 +325,7 @@ final class ModelTest {
             case 0: call("isOpen", heat); break;
             case 1: call("place", heat, surfer); break;
             case 2: call("first", heat); break;
-            case 3: call("score", heat, surfer, oneIn(20) ? wild() : upTo(4)); break;
+            case 3: call("score", heat, surfer, oneIn(20) ? wild() : upTo(oneIn(2) ? 2 : 6)); break;
             case 4: call("total", heat, surfer); break;
             case 5: call("hindered", heat, surfer, oneIn(9) ? (char) among('x', 'P', 0, 65535) : (char) among('p', 'n'));
                 break;

@@ -6,7 +6,6 @@ public final class Prioritywave {
     private static final int LAST_BEGINNING = 99939;
     private static final int LONGEST_SEARCH = 2000;
     private static final int LONGEST_HEAT = 60;
-    private static final int EVENT_HEAT = 30;
     private static final int LATEST_RESTART = 10;
     private static final int MOST_POINTS = 99999;
     private static final int MOST_SURFERS = 16;
@@ -20,12 +19,6 @@ public final class Prioritywave {
     private static final int LEAST_WAVE = 30;
 
     private static final int EVENT_SURFERS = 12;
-    private static final int LAST_ROUND = 5;
-    private static final int EVENT_HEATS = 15;
-    private static final int[] HEATS_OF_ROUND = {4, 4, 4, 2, 1};
-    private static final int[] HEATS_AHEAD_OF_ROUND = {0, 4, 8, 12, 14};
-    private static final int[] POINTS_OF_LOSER = {0, 3320, 4745, 6085, 7800};
-    private static final int POINTS_OF_WINNER = 10000;
 
     private static final int NOT_IN_ROW = -1;
     private static final int GONE = -2;
@@ -134,7 +127,8 @@ public final class Prioritywave {
         if (!told.isFreeWave(slot, minute)) {
             throw new UnsupportedOperationException("the wave is ridden");
         }
-        told.tellRide(slot, minute, given, isHindering);
+        told.tell(RIDE, slot, minute, isHindering);
+        told.enter(slot, given);
         return given;
     }
 
@@ -238,7 +232,7 @@ public final class Prioritywave {
 
     public int total(int heat, int surfer) throws IndexOutOfBoundsException, NoSuchElementException {
         Heat asked = heatNumbered(heat);
-        return asked.sumOf(slotToTell(asked, surfer));
+        return asked.countedBy(slotToTell(asked, surfer));
     }
 
     public int hindered(int heat, int surfer, char kind)
@@ -305,7 +299,7 @@ public final class Prioritywave {
         if (!drawn.isReady()) {
             throw new UnsupportedOperationException("no round can follow now");
         }
-        int heatsOfRound = drawn.heatsOf(drawn.roundCount() + 1);
+        int heatsOfRound = Event.heatsOf(drawn.roundCount() + 1);
         refuseMoreHeats(heatsOfRound);
         int number = heatCount;
         for (int index = 0; index < heatsOfRound; index++) {
@@ -682,7 +676,7 @@ public final class Prioritywave {
         final int slot;
         final int minute;
         final boolean isHindering;
-        private Act next;
+        Act next;
 
         Act(int kind, int slot, int minute, boolean isHindering) {
             this.kind = kind;
@@ -714,7 +708,7 @@ public final class Prioritywave {
         }
 
         int placeOf(int slot) {
-            return isOutside(slot, 0, places.length - 1) ? GONE : places[slot];
+            return slot < 0 || slot >= places.length ? GONE : places[slot];
         }
 
         int left() {
@@ -731,10 +725,11 @@ public final class Prioritywave {
         }
 
         void sendBack(int slot) {
-            if (placeOf(slot) == GONE) {
+            int place = placeOf(slot);
+            if (place == GONE) {
                 return;
             }
-            takeOut(slot);
+            closeUp(place);
             places[slot] = length;
             length++;
             putLastOneAhead();
@@ -747,10 +742,11 @@ public final class Prioritywave {
         }
 
         void remove(int slot) {
-            if (placeOf(slot) == GONE) {
+            int place = placeOf(slot);
+            if (place == GONE) {
                 return;
             }
-            takeOut(slot);
+            closeUp(place);
             places[slot] = GONE;
             left--;
             putLastOneAhead();
@@ -762,8 +758,8 @@ public final class Prioritywave {
             }
         }
 
-        private void takeOut(int leaving) {
-            int place = placeOf(leaving);
+        /** What place the one who had this one has then is for the caller to say. */
+        private void closeUp(int place) {
             if (place < 0) {
                 return;
             }
@@ -772,7 +768,6 @@ public final class Prioritywave {
                     places[slot]--;
                 }
             }
-            places[leaving] = NOT_IN_ROW;
             length--;
         }
 
@@ -808,21 +803,19 @@ public final class Prioritywave {
 
         void begin(int surfers) {
             row.begin(surfers);
-            for (int slot = 0; slot < lesserRights.length && slot < laterRides.length; slot++) {
+            for (int slot = 0; slot < MOST_IN_HEAT; slot++) {
                 lesserRights[slot] = 0;
                 laterRides[slot] = 0;
             }
             waveMinute = NONE;
-            waveRides = 0;
-            waveRider = NONE;
         }
 
         Row row() {
             return row;
         }
 
-        int interferences(int slot, char kind) {
-            if (isOutside(slot, 0, MOST_IN_HEAT - 1)) {
+        int countOf(int slot, char kind) {
+            if (slot < 0 || slot >= MOST_IN_HEAT) {
                 return 0;
             }
             return kind == 'p' ? lesserRights[slot] : laterRides[slot];
@@ -852,13 +845,14 @@ public final class Prioritywave {
 
         private void tellRide(Act act) {
             boolean isSecond = act.minute == waveMinute;
-            if (!isSecond) {
+            if (isSecond) {
+                waveRides++;
+            } else {
                 row.copyPlacesTo(placesAhead);
                 waveMinute = act.minute;
                 waveRider = act.slot;
-                waveRides = 0;
+                waveRides = 1;
             }
-            waveRides++;
             row.sendBack(act.slot);
             if (isSecond && act.isHindering) {
                 blame(waveRider, act.slot);
@@ -866,7 +860,7 @@ public final class Prioritywave {
         }
 
         private void blame(int firstRider, int secondRider) {
-            if (isOutside(firstRider, 0, MOST_IN_HEAT - 1) || isOutside(secondRider, 0, MOST_IN_HEAT - 1)) {
+            if (firstRider < 0 || firstRider >= MOST_IN_HEAT || secondRider < 0 || secondRider >= MOST_IN_HEAT) {
                 return;
             }
             int firstPlace = placesAhead[firstRider];
@@ -883,11 +877,12 @@ public final class Prioritywave {
         }
     }
 
-    /** The scores of one surfer in a heat, the greatest one first. */
+    /** The scores of one surfer in a heat, the greatest one first, and what of them counts. */
     private static final class Card {
         private final int[] scores;
         private int count;
         private int sum;
+        private int counted;
 
         Card() {
             // A surfer rides once in a minute, so there are no more scores than minutes.
@@ -909,7 +904,7 @@ public final class Prioritywave {
         }
 
         int scoreAt(int index) {
-            return isOutside(index, 0, count - 1) ? 0 : scores[index];
+            return index < 0 || index >= count ? 0 : scores[index];
         }
 
         int count() {
@@ -919,6 +914,23 @@ public final class Prioritywave {
         int sum() {
             return sum;
         }
+
+        int counted() {
+            return counted;
+        }
+
+        void countAs(int counting) {
+            counted = counting;
+        }
+
+        /** Above 0 if this card is ahead of one that counts so much and has these two best scores. */
+        int compareWith(int otherCounted, int otherBest, int otherSecond) {
+            int order = Integer.compare(counted, otherCounted);
+            if (order == 0) {
+                order = Integer.compare(scoreAt(0), otherBest);
+            }
+            return order == 0 ? Integer.compare(scoreAt(1), otherSecond) : order;
+        }
     }
 
     private static final class Heat {
@@ -926,6 +938,7 @@ public final class Prioritywave {
         private final int minutes;
         private final int[] surfers;
         private final Card[] cards;
+        private final int[] ranks;
         private final Course course;
         private int begin;
         private int latest;
@@ -939,8 +952,10 @@ public final class Prioritywave {
             this.minutes = minutes;
             this.surfers = surfers;
             cards = new Card[surfers.length];
-            for (int slot = 0; slot < cards.length; slot++) {
+            ranks = new int[surfers.length];
+            for (int slot = 0; slot < surfers.length; slot++) {
                 cards[slot] = new Card();
+                ranks[slot] = slot + 1;
             }
             course = new Course();
             course.begin(surfers.length);
@@ -971,7 +986,7 @@ public final class Prioritywave {
         }
 
         int surferTold(int slot) {
-            return isOutside(slot, 0, surfers.length - 1) ? NONE : surfers[slot];
+            return slot < 0 || slot >= surfers.length ? NONE : surfers[slot];
         }
 
         int actCount() {
@@ -991,7 +1006,7 @@ public final class Prioritywave {
         }
 
         int interferences(int slot, char kind) {
-            return course.interferences(slot, kind);
+            return course.countOf(slot, kind);
         }
 
         boolean isActive(int slot) {
@@ -1019,19 +1034,21 @@ public final class Prioritywave {
             course.tell(act);
         }
 
-        void tellRide(int slot, int minute, int score, boolean isHindering) {
+        /** Asked for behind the ride itself, as an interference changes what the cards count. */
+        void enter(int slot, int score) {
             Card card = cardOf(slot);
             if (card != null) {
                 card.enter(score);
             }
-            tell(RIDE, slot, minute, isHindering);
+            countAnew();
+            rankAnew();
         }
 
         boolean canBeginAnew(int minute) {
             return isRunning && fits(minute) && allRides() == 0 && minute - begin <= LATEST_RESTART;
         }
 
-        /** The cards stay, as it is only asked for while nobody rode. */
+        /** The cards and the ranks stay, as it is only asked for while nobody rode. */
         void beginAnew(int minute) {
             begin = minute;
             latest = minute;
@@ -1051,6 +1068,11 @@ public final class Prioritywave {
             return card == null ? 0 : card.scoreAt(index);
         }
 
+        int countedBy(int slot) {
+            Card card = cardOf(slot);
+            return card == null ? 0 : card.counted();
+        }
+
         int allRides() {
             int rides = 0;
             for (int slot = 0; slot < surfers.length; slot++) {
@@ -1068,17 +1090,13 @@ public final class Prioritywave {
             return sum;
         }
 
-        int sumOf(int slot) {
-            return sumWith(slot, scoreAt(slot, 0), scoreAt(slot, 1));
-        }
-
         int rankOf(int slot) {
-            return rankWith(slot, scoreAt(slot, 0), scoreAt(slot, 1));
+            return slot < 0 || slot >= ranks.length ? NONE : ranks[slot];
         }
 
         int surferRanked(int rank) {
-            for (int slot = 0; slot < surfers.length; slot++) {
-                if (rankOf(slot) == rank) {
+            for (int slot = 0; slot < surfers.length && slot < ranks.length; slot++) {
+                if (ranks[slot] == rank) {
                     return surfers[slot];
                 }
             }
@@ -1106,7 +1124,7 @@ public final class Prioritywave {
         long addedTo(long sum) {
             long added = sum;
             for (int slot = 0; slot < surfers.length; slot++) {
-                added = 31 * added + sumOf(slot);
+                added = 31 * added + countedBy(slot);
                 added = 31 * added + placeOf(slot) + 3;
             }
             return added;
@@ -1126,20 +1144,19 @@ public final class Prioritywave {
         }
 
         boolean hasOneOfEachRank() {
-            int seen = 0;
-            for (int slot = 0; slot < surfers.length; slot++) {
-                int rank = 1 << rankOf(slot);
-                if ((seen & rank) != 0) {
-                    return false;
+            for (int slot = 0; slot < ranks.length; slot++) {
+                for (int other = 0; other < slot; other++) {
+                    if (ranks[other] == ranks[slot]) {
+                        return false;
+                    }
                 }
-                seen |= rank;
             }
             return true;
         }
 
         boolean hasSoundNeeds() {
-            for (int slot = 0; slot < surfers.length; slot++) {
-                int better = rankOf(slot) - 1;
+            for (int slot = 0; slot < ranks.length; slot++) {
+                int better = ranks[slot] - 1;
                 if (better > 0 && isActive(slot) && !isSoundNeed(slot, better, neededFor(slot, better))) {
                     return false;
                 }
@@ -1155,14 +1172,29 @@ public final class Prioritywave {
         }
 
         private Card cardOf(int slot) {
-            return isOutside(slot, 0, cards.length - 1) ? null : cards[slot];
+            return slot < 0 || slot >= cards.length ? null : cards[slot];
         }
 
-        private int sumWith(int slot, int best, int second) {
-            if (interferences(slot, 'p') > 0) {
+        private void countAnew() {
+            for (int slot = 0; slot < cards.length; slot++) {
+                Card card = cards[slot];
+                if (card != null) {
+                    card.countAs(countWith(slot, card.scoreAt(0), card.scoreAt(1)));
+                }
+            }
+        }
+
+        private void rankAnew() {
+            for (int slot = 0; slot < ranks.length; slot++) {
+                ranks[slot] = rankWith(slot, scoreAt(slot, 0), scoreAt(slot, 1));
+            }
+        }
+
+        private int countWith(int slot, int best, int second) {
+            if (course.countOf(slot, 'p') > 0) {
                 return best;
             }
-            return best + (interferences(slot, 'n') > 0 ? second / 2 : second);
+            return best + (course.countOf(slot, 'n') > 0 ? second / 2 : second);
         }
 
         private int rankAfter(int slot, int score) {
@@ -1175,28 +1207,29 @@ public final class Prioritywave {
         }
 
         private int rankWith(int slot, int best, int second) {
-            int sum = sumWith(slot, best, second);
+            int counted = countWith(slot, best, second);
             int rank = 1;
-            for (int other = 0; other < surfers.length; other++) {
-                if (other != slot) {
-                    int order = compareWith(other, sum, best, second);
+            for (int other = 0; other < cards.length; other++) {
+                Card card = cards[other];
+                if (other != slot && card != null) {
+                    int order = card.compareWith(counted, best, second);
                     rank += order > 0 || order == 0 && other < slot ? 1 : 0;
                 }
             }
             return rank;
         }
-
-        private int compareWith(int slot, int sum, int best, int second) {
-            int order = Integer.compare(sumOf(slot), sum);
-            if (order == 0) {
-                order = Integer.compare(scoreAt(slot, 0), best);
-            }
-            return order == 0 ? Integer.compare(scoreAt(slot, 1), second) : order;
-        }
     }
 
     /** An event of twelve: its draw, round by round, and its points. */
     private static final class Event {
+        private static final int LAST_ROUND = 5;
+        private static final int HEATS = 15;
+        private static final int LENGTH_OF_HEAT = 30;
+        private static final int[] HEATS_OF_ROUND = {4, 4, 4, 2, 1};
+        private static final int[] HEATS_AHEAD_OF_ROUND = {0, 4, 8, 12, 14};
+        private static final int[] POINTS_OF_LOSER = {0, 3320, 4745, 6085, 7800};
+        private static final int POINTS_OF_WINNER = 10000;
+
         private final Bank bank;
         private final int[] seeds;
         private final Heat[] heats;
@@ -1208,7 +1241,7 @@ public final class Prioritywave {
         Event(Bank bank, int[] seeds) {
             this.bank = bank;
             this.seeds = seeds;
-            heats = new Heat[EVENT_HEATS];
+            heats = new Heat[HEATS];
             firstNumbers = new int[LAST_ROUND];
             points = new int[MOST_SURFERS];
         }
@@ -1217,12 +1250,12 @@ public final class Prioritywave {
             return roundCount;
         }
 
-        int heatsOf(int round) {
-            return isOutside(round, 1, HEATS_OF_ROUND.length) ? 0 : HEATS_OF_ROUND[round - 1];
+        static int heatsOf(int round) {
+            return round < 1 || round > HEATS_OF_ROUND.length ? 0 : HEATS_OF_ROUND[round - 1];
         }
 
         int heatNumber(int round, int index) {
-            if (isOutside(round, 1, roundCount) || isOutside(round, 1, firstNumbers.length)
+            if (round < 1 || round > roundCount || round > firstNumbers.length
                     || isOutside(index, 0, heatsOf(round) - 1)) {
                 return NONE;
             }
@@ -1230,7 +1263,7 @@ public final class Prioritywave {
         }
 
         int pointsOf(int surfer) {
-            return isOutside(surfer, 0, points.length - 1) ? 0 : points[surfer];
+            return surfer < 0 || surfer >= points.length ? 0 : points[surfer];
         }
 
         boolean isReady() {
@@ -1242,7 +1275,7 @@ public final class Prioritywave {
         }
 
         Heat drawHeat(int index, int begin) {
-            Heat heat = new Heat(bank, begin, EVENT_HEAT, drawnFor(index));
+            Heat heat = new Heat(bank, begin, LENGTH_OF_HEAT, drawnFor(index));
             int at = cellOf(roundCount + 1, index);
             if (at != NONE) {
                 heats[at] = heat;
@@ -1278,7 +1311,7 @@ public final class Prioritywave {
         }
 
         private void give(int surfer, int given) {
-            if (!isOutside(surfer, 0, points.length - 1)) {
+            if (surfer >= 0 && surfer < points.length) {
                 points[surfer] = given;
             }
         }
@@ -1313,7 +1346,7 @@ public final class Prioritywave {
         }
 
         private int seedAt(int seed) {
-            return isOutside(seed, 0, seeds.length - 1) ? NONE : seeds[seed];
+            return seed < 0 || seed >= seeds.length ? NONE : seeds[seed];
         }
 
         private int seedOf(int surfer) {
@@ -1336,7 +1369,7 @@ public final class Prioritywave {
         }
 
         private int cellOf(int round, int index) {
-            if (isOutside(index, 0, heatsOf(round) - 1) || isOutside(round, 1, HEATS_AHEAD_OF_ROUND.length)) {
+            if (round < 1 || round > HEATS_AHEAD_OF_ROUND.length || index < 0) {
                 return NONE;
             }
             int at = HEATS_AHEAD_OF_ROUND[round - 1] + index;

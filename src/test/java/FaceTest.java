@@ -76,6 +76,16 @@ final class FaceTest {
         for (java.lang.reflect.Field field : Prioritywave.class.getDeclaredFields()) {
             Check.yes(field.getName() + " is private", Modifier.isPrivate(field.getModifiers()));
         }
+        for (Class<?> inside : Prioritywave.class.getDeclaredClasses()) {
+            for (Method method : inside.getDeclaredMethods()) {
+                String line = method.getName() + "(";
+                boolean isOfFace = false;
+                for (String told : FACE) {
+                    isOfFace |= told.contains(" " + line);
+                }
+                Check.no(inside.getSimpleName() + "." + line + ") bears no name of the face", isOfFace);
+            }
+        }
         Constructor<?>[] constructors = Prioritywave.class.getDeclaredConstructors();
         Check.same("1: constructors", constructors.length, 1);
         Check.same("1: its parameters", constructors[0].getParameterCount(), 0);

@@ -327,7 +327,7 @@ final class ModelTest {
             case 2: call("first", heat); break;
             case 3: call("score", heat, surfer, oneIn(20) ? wild() : upTo(oneIn(2) ? 2 : 6)); break;
             case 4: call("total", heat, surfer); break;
-            case 5: call("hindered", heat, surfer, oneIn(9) ? (char) among('x', 'P', 0, 65535) : (char) among('p', 'n'));
+            case 5: call("hindered", heat, surfer, (char) (oneIn(9) ? among('x', 'P', 0, 65535) : among('p', 'n')));
                 break;
             case 6: call("rank", heat, surfer); break;
             case 7: call("ranked", heat, inRange(1, 4)); break;

@@ -16,6 +16,7 @@ final class SumTest {
         sound();
         unsoundRow();
         unsoundActs();
+        unsoundRanks();
         unsoundPoints();
     }
 
@@ -136,6 +137,19 @@ final class SumTest {
         Check.no("42: a row without its acts", x.isSound());
         set(heat, "firstAct", first);
         Check.yes("42: with its acts", x.isSound());
+    }
+
+    private static void unsoundRanks() {
+        Prioritywave x = HeatTest.withSurfers(4);
+        x.heat(0, 0, 60, 15);
+        int[] ranks = (int[]) of(at(of(x, "heats"), 0), "ranks");
+        ranks[3] = 1;
+        Check.no("42: the first and the last one of one rank", x.isSound());
+        ranks[3] = 4;
+        ranks[1] = 3;
+        Check.no("42: two in the middle of one rank", x.isSound());
+        ranks[1] = 2;
+        Check.yes("42: each of one of its own", x.isSound());
     }
 
     private static void unsoundPoints() {

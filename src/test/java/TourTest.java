@@ -14,6 +14,7 @@ final class TourTest {
         pointsOfOne();
         pointsOfTwo();
         pointsOfUnfinished();
+        pointsOfFour();
         seedsOfYears();
         seedsOfPoints();
         cuts();
@@ -61,16 +62,15 @@ final class TourTest {
             EventTest.closeWith(x, x.round(1, 0), 0, java.util.Arrays.copyOf(second, heats));
         }
         int[] first = {10000, 7800, 6085, 6085, 4745, 4745, 4745, 4745, 3320, 3320, 3320, 3320, 0, 0};
-        for (int surfer = 0; surfer < first.length; surfer++) {
-            int one = x.eventPoints(0, surfer);
-            int other = x.eventPoints(1, surfer);
-            Check.same("33: of the first event", one, first[surfer]);
-            x.drop(0);
-            Check.same("35: of both", x.points(surfer), one + other);
-            x.drop(1);
-            Check.same("35: without the least one", x.points(surfer), Math.max(one, other));
-            x.drop(2);
-            Check.same("35: without both", x.points(surfer), 0);
+        for (int dropped = 0; dropped <= 3; dropped++) {
+            x.drop(dropped);
+            for (int surfer = 0; surfer < first.length; surfer++) {
+                int one = x.eventPoints(0, surfer);
+                int other = x.eventPoints(1, surfer);
+                int due = dropped == 0 ? one + other : dropped == 1 ? Math.max(one, other) : 0;
+                Check.same("33: of the first event", one, first[surfer]);
+                Check.same("35: dropped " + dropped, x.points(surfer), due);
+            }
         }
         Check.no("33: the second event came out otherwise", x.eventPoints(1, 0) == 10000);
         Check.yes("42: sound", x.isSound());
@@ -89,6 +89,26 @@ final class TourTest {
         x.surfer(0);
         x.drop(0);
         Check.same("35: in no event", x.points(12), 0);
+    }
+
+    /** Of four events the last one is over first, then the second one; as told first wins, the field is the same. */
+    private static void pointsOfFour() {
+        Prioritywave x = EventTest.tour(13);
+        for (int event = 0; event < 4; event++) {
+            x.event(0);
+        }
+        EventTest.whole(x, 3);
+        x.drop(3);
+        Check.same("35: three that are not over dropped", x.points(0), 10000);
+        EventTest.whole(x, 1);
+        int[] due = {20000, 20000, 20000, 10000};
+        for (int dropped = 0; dropped <= 3; dropped++) {
+            x.drop(dropped);
+            Check.same("35: in none of them, dropped " + dropped, x.points(12), 0);
+            Check.same("35: dropped " + dropped, x.points(0), due[dropped]);
+            Check.same("35: the third seed, dropped " + dropped, x.points(2), due[dropped] / 10000 * 6085);
+        }
+        Check.yes("42: sound", x.isSound());
     }
 
     private static void seedsOfYears() {

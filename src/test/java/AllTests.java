@@ -12,8 +12,14 @@ public final class AllTests {
         EventTest.run();
         TourTest.run();
         SumTest.run();
+        RangeTest.run();
+        LimitTest.run();
+        RefusalTest.run();
+        OrderTest.run();
+        SmallWorldTest.run();
         FaceTest.run();
         LanguageTest.run(java.nio.file.Path.of("src/main/java/Prioritywave.java"));
+        SentenceTest.run(java.nio.file.Path.of("../shared/DOC.md"), java.nio.file.Path.of("src/test/SENTENCES.md"));
         MachineTest.run();
         ModelTest.run(args.length > 0 ? Integer.parseInt(args[0]) : 1000);
         System.out.println(Check.passed() + " passed, " + Check.failed() + " failed");

@@ -22,8 +22,12 @@ final class Check {
         tell(!got, what, "true", "false");
     }
 
-    /** The class is compared exactly, as what the machine throws is of a class below. */
-    static void refuses(String what, Class<? extends RuntimeException> due, Runnable call) {
+    /**
+     * A call that throws, behind which nothing of the object has changed. The class is compared exactly, as what the
+     * machine throws is of a class below.
+     */
+    static void refuses(String what, Class<? extends RuntimeException> due, Prioritywave object, Runnable call) {
+        long before = State.of(object);
         String got = "nothing";
         try {
             call.run();
@@ -31,6 +35,7 @@ final class Check {
             got = thrown.getClass().getName();
         }
         tell(got.equals(due.getName()), what, "throws " + got, "throws " + due.getName());
+        tell(State.of(object) == before, what + ", refused", "another state", "nothing changed");
     }
 
     static void tell(boolean isDue, String what, String got, String due) {

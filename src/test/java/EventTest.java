@@ -23,6 +23,11 @@ final class EventTest {
         heatOfRefusals();
         pointsOfAll();
         eventPointsRefusals();
+        eachOpenHeat();
+        minutesOfRounds();
+        pointsAtTheEnd();
+        cutWhileItGoes();
+        heatsBegunAnew();
     }
 
     /** A tour of so many, of whom the surfer 0 is the first seed and so on, with waves, marks and a bank. */
@@ -47,24 +52,24 @@ final class EventTest {
         for (int index = 0; index < due.length; index++) {
             Check.same(what + ", told as " + index, x.surferAt(heat, index), due[index]);
         }
-        Check.refuses(what + ", no more", ELEMENT, () -> x.surferAt(heat, due.length));
+        Check.refuses(what + ", no more", ELEMENT, x, () -> x.surferAt(heat, due.length));
     }
 
     private static void eventRefusals() {
         Prioritywave x = new Prioritywave();
-        Check.refuses("28: no bank goes first", INDEX, () -> x.event(0));
+        Check.refuses("28: no bank goes first", INDEX, x, () -> x.event(0));
         x.bank(0, 100, 0, 400);
         for (int i = 0; i < 11; i++) {
             x.surfer(i);
         }
-        Check.refuses("28: no bank 1", INDEX, () -> x.event(1));
-        Check.refuses("28: no bank -1", INDEX, () -> x.event(-1));
-        Check.refuses("28: eleven", SUPPORT, () -> x.event(0));
-        Check.refuses("28: none was made", INDEX, () -> x.rounds(0));
+        Check.refuses("28: no bank 1", INDEX, x, () -> x.event(1));
+        Check.refuses("28: no bank -1", INDEX, x, () -> x.event(-1));
+        Check.refuses("28: eleven", SUPPORT, x, () -> x.event(0));
+        Check.refuses("28: none was made", INDEX, x, () -> x.rounds(0));
         x.surfer(11);
         Check.same("28: twelve", x.event(0), 0);
         x.cut(11);
-        Check.refuses("28: eleven who are not cut", SUPPORT, () -> x.event(0));
+        Check.refuses("28: eleven who are not cut", SUPPORT, x, () -> x.event(0));
         x.surfer(0);
         Check.same("28: twelve who are not cut", x.event(0), 1);
     }
@@ -74,11 +79,11 @@ final class EventTest {
         for (int i = 0; i < 4; i++) {
             Check.same("28: number", x.event(0), i);
         }
-        Check.refuses("28: a fifth", STATE, () -> x.event(0));
-        Check.refuses("28: a fifth without a bank", INDEX, () -> x.event(1));
+        Check.refuses("28: a fifth", STATE, x, () -> x.event(0));
+        Check.refuses("28: a fifth without a bank", INDEX, x, () -> x.event(1));
         x.cut(1);
-        Check.refuses("28: too few go first", SUPPORT, () -> x.event(0));
-        Check.refuses("28: no event 4", INDEX, () -> x.rounds(4));
+        Check.refuses("28: too few go first", SUPPORT, x, () -> x.event(0));
+        Check.refuses("28: no event 4", INDEX, x, () -> x.rounds(4));
     }
 
     private static void eventField() {
@@ -108,27 +113,27 @@ final class EventTest {
 
     private static void roundRefusals() {
         Prioritywave x = tour(12);
-        Check.refuses("29: no event goes first", INDEX, () -> x.round(0, -1));
+        Check.refuses("29: no event goes first", INDEX, x, () -> x.round(0, -1));
         x.event(0);
-        Check.refuses("29: no event 1", INDEX, () -> x.round(1, 0));
-        Check.refuses("29: no event -1", INDEX, () -> x.round(-1, 0));
-        Check.refuses("29: minute -1", ARGUMENT, () -> x.round(0, -1));
-        Check.refuses("29: minute 99940", ARGUMENT, () -> x.round(0, 99940));
+        Check.refuses("29: no event 1", INDEX, x, () -> x.round(1, 0));
+        Check.refuses("29: no event -1", INDEX, x, () -> x.round(-1, 0));
+        Check.refuses("29: minute -1", ARGUMENT, x, () -> x.round(0, -1));
+        Check.refuses("29: minute 99940", ARGUMENT, x, () -> x.round(0, 99940));
         Check.same("30: none was made", x.rounds(0), 0);
         Check.same("29: the latest minute", x.round(0, 99939), 0);
         Check.same("29: of all of them", x.block(3, 3, 99939 + 29), -1);
-        Check.refuses("29: thirty minutes each", SUPPORT, () -> x.block(3, 3, 99939 + 30));
-        Check.refuses("29: heats are open", SUPPORT, () -> x.round(0, 0));
-        Check.refuses("29: a wrong minute goes first", ARGUMENT, () -> x.round(0, -1));
+        Check.refuses("29: thirty minutes each", SUPPORT, x, () -> x.block(3, 3, 99939 + 30));
+        Check.refuses("29: heats are open", SUPPORT, x, () -> x.round(0, 0));
+        Check.refuses("29: a wrong minute goes first", ARGUMENT, x, () -> x.round(0, -1));
         x.close(0);
         x.close(1);
         x.close(3);
-        Check.refuses("29: one is open", SUPPORT, () -> x.round(0, 0));
+        Check.refuses("29: one is open", SUPPORT, x, () -> x.round(0, 0));
         Check.same("30: one round was made", x.rounds(0), 1);
-        Check.refuses("29: no heat was made", INDEX, () -> x.isOpen(4));
+        Check.refuses("29: no heat was made", INDEX, x, () -> x.isOpen(4));
         x.close(2);
         Check.same("29: the round 2", x.round(0, 0), 4);
-        Check.refuses("29: its heats are open", SUPPORT, () -> x.round(0, 0));
+        Check.refuses("29: its heats are open", SUPPORT, x, () -> x.round(0, 0));
     }
 
     private static void roundLimit() {
@@ -137,8 +142,8 @@ final class EventTest {
             x.heat(0, 0, 10, 3);
         }
         x.event(0);
-        Check.refuses("29: 41 heats", STATE, () -> x.round(0, 0));
-        Check.refuses("29: a wrong minute goes first", ARGUMENT, () -> x.round(0, -1));
+        Check.refuses("29: 41 heats", STATE, x, () -> x.round(0, 0));
+        Check.refuses("29: a wrong minute goes first", ARGUMENT, x, () -> x.round(0, -1));
         Check.same("30: none was made", x.rounds(0), 0);
         Check.same("8: three can be made", x.heat(0, 0, 10, 3), 37);
 
@@ -148,11 +153,11 @@ final class EventTest {
         }
         y.event(0);
         Check.same("29: 40 heats", y.round(0, 0), 36);
-        Check.refuses("29: an open heat goes ahead of too many", SUPPORT, () -> y.round(0, 0));
+        Check.refuses("29: an open heat goes ahead of too many", SUPPORT, y, () -> y.round(0, 0));
         for (int i = 36; i < 40; i++) {
             y.close(i);
         }
-        Check.refuses("29: 44 heats", STATE, () -> y.round(0, 0));
+        Check.refuses("29: 44 heats", STATE, y, () -> y.round(0, 0));
         Check.same("30: one was made", y.rounds(0), 1);
     }
 
@@ -165,14 +170,14 @@ final class EventTest {
         who("29: heat 2", x, 2, 2, 5, 10);
         who("29: heat 3", x, 3, 3, 4, 11);
         Check.same("29: at the bank of the event", x.ride(0, 0, 5, 0, false), 500);
-        Check.refuses("29: its waves", SUPPORT, () -> x.ride(0, 0, 6, 0, false));
-        Check.refuses("29: of no one else", SUPPORT, () -> x.ride(0, 1, 10, 0, false));
+        Check.refuses("29: its waves", SUPPORT, x, () -> x.ride(0, 0, 6, 0, false));
+        Check.refuses("29: of no one else", SUPPORT, x, () -> x.ride(0, 1, 10, 0, false));
 
         Prioritywave y = tour(12);
         y.bank(0, 10, 0, 400);
         y.event(1);
         y.round(0, 0);
-        Check.refuses("29: a bank with lower waves", SUPPORT, () -> y.ride(0, 0, 5, 0, false));
+        Check.refuses("29: a bank with lower waves", SUPPORT, y, () -> y.ride(0, 0, 5, 0, false));
     }
 
     /** Seeds that are told behind win, so that each one comes from another place. */
@@ -206,8 +211,8 @@ final class EventTest {
         Check.same("35: nor counts", x.points(11), 0);
         closeWith(x, 14, 400, 1);
         points(x, 3320, 7800, 4745, 3320, 4745, 3320, 6085, 4745, 6085, 4745, 3320, 10000);
-        Check.refuses("29: round 5 was made", SUPPORT, () -> x.round(0, 500));
-        Check.refuses("29: a wrong minute goes first", ARGUMENT, () -> x.round(0, 99940));
+        Check.refuses("29: round 5 was made", SUPPORT, x, () -> x.round(0, 500));
+        Check.refuses("29: a wrong minute goes first", ARGUMENT, x, () -> x.round(0, 99940));
         Check.same("30: five rounds", x.rounds(0), 5);
         Check.yes("42: sound", x.isSound());
     }
@@ -240,18 +245,18 @@ final class EventTest {
 
     private static void heatOfRefusals() {
         Prioritywave x = tour(12);
-        Check.refuses("31: no event goes first", INDEX, () -> x.heatOf(0, 0, 0));
-        Check.refuses("30: no event", INDEX, () -> x.rounds(0));
+        Check.refuses("31: no event goes first", INDEX, x, () -> x.heatOf(0, 0, 0));
+        Check.refuses("30: no event", INDEX, x, () -> x.rounds(0));
         x.event(0);
-        Check.refuses("30: no event 1", INDEX, () -> x.rounds(1));
-        Check.refuses("30: no event -1", INDEX, () -> x.rounds(-1));
-        Check.refuses("31: no event 1", INDEX, () -> x.heatOf(1, 1, 0));
-        Check.refuses("31: no round was made", ELEMENT, () -> x.heatOf(0, 1, 0));
+        Check.refuses("30: no event 1", INDEX, x, () -> x.rounds(1));
+        Check.refuses("30: no event -1", INDEX, x, () -> x.rounds(-1));
+        Check.refuses("31: no event 1", INDEX, x, () -> x.heatOf(1, 1, 0));
+        Check.refuses("31: no round was made", ELEMENT, x, () -> x.heatOf(0, 1, 0));
         x.round(0, 0);
-        Check.refuses("31: no round 0", ELEMENT, () -> x.heatOf(0, 0, 0));
-        Check.refuses("31: no round 2", ELEMENT, () -> x.heatOf(0, 2, 0));
-        Check.refuses("31: no index -1", ELEMENT, () -> x.heatOf(0, 1, -1));
-        Check.refuses("31: no index 4", ELEMENT, () -> x.heatOf(0, 1, 4));
+        Check.refuses("31: no round 0", ELEMENT, x, () -> x.heatOf(0, 0, 0));
+        Check.refuses("31: no round 2", ELEMENT, x, () -> x.heatOf(0, 2, 0));
+        Check.refuses("31: no index -1", ELEMENT, x, () -> x.heatOf(0, 1, -1));
+        Check.refuses("31: no index 4", ELEMENT, x, () -> x.heatOf(0, 1, 4));
         int heat = 0;
         for (int round = 1; round < 5; round++) {
             for (int i = 0; i < (round < 4 ? 4 : 2); i++) {
@@ -262,11 +267,11 @@ final class EventTest {
         }
         Check.same("31: the last one of the round 3", x.heatOf(0, 3, 3), 11);
         Check.same("31: the last one of the round 4", x.heatOf(0, 4, 1), 13);
-        Check.refuses("31: no third one in the round 4", ELEMENT, () -> x.heatOf(0, 4, 2));
+        Check.refuses("31: no third one in the round 4", ELEMENT, x, () -> x.heatOf(0, 4, 2));
         Check.same("31: that of the round 5", x.heatOf(0, 5, 0), 14);
-        Check.refuses("31: no second one in the round 5", ELEMENT, () -> x.heatOf(0, 5, 1));
-        Check.refuses("31: no round 6", ELEMENT, () -> x.heatOf(0, 6, 0));
-        Check.refuses("29: round 5 is open", SUPPORT, () -> x.round(0, 0));
+        Check.refuses("31: no second one in the round 5", ELEMENT, x, () -> x.heatOf(0, 5, 1));
+        Check.refuses("31: no round 6", ELEMENT, x, () -> x.heatOf(0, 6, 0));
+        Check.refuses("29: round 5 is open", SUPPORT, x, () -> x.round(0, 0));
     }
 
     /** Tells an event to its end; in each heat the first one told wins. */
@@ -289,14 +294,120 @@ final class EventTest {
 
     private static void eventPointsRefusals() {
         Prioritywave x = tour(12);
-        Check.refuses("33: no event", INDEX, () -> x.eventPoints(0, 0));
+        Check.refuses("33: no event", INDEX, x, () -> x.eventPoints(0, 0));
         x.event(0);
-        Check.refuses("33: no event 1", INDEX, () -> x.eventPoints(1, 0));
-        Check.refuses("33: no event -1", INDEX, () -> x.eventPoints(-1, 0));
-        Check.refuses("33: no surfer 12", INDEX, () -> x.eventPoints(0, 12));
-        Check.refuses("33: no surfer -1", INDEX, () -> x.eventPoints(0, -1));
+        Check.refuses("33: no event 1", INDEX, x, () -> x.eventPoints(1, 0));
+        Check.refuses("33: no event -1", INDEX, x, () -> x.eventPoints(-1, 0));
+        Check.refuses("33: no surfer 12", INDEX, x, () -> x.eventPoints(0, 12));
+        Check.refuses("33: no surfer -1", INDEX, x, () -> x.eventPoints(0, -1));
         Check.same("33: not begun", x.eventPoints(0, 0), 0);
         x.surfer(5);
         Check.same("33: not in it", x.eventPoints(0, 12), 0);
+    }
+
+    /** "if a heat of the round before is open": each one of them alone. */
+    private static void eachOpenHeat() {
+        int[] sizes = {4, 4, 4, 2, 1};
+        for (int round = 1; round <= 5; round++) {
+            int size = sizes[round - 1];
+            for (int open = 0; open < size; open++) {
+                Prioritywave x = RangeTest.begun(round);
+                int first = x.heatOf(0, round, 0);
+                for (int index = 0; index < size; index++) {
+                    if (index != open) {
+                        x.close(first + index);
+                    }
+                }
+                Check.refuses("29: the heat " + open + " of the round " + round + " is open", SUPPORT, x,
+                        () -> x.round(0, 0));
+                Check.same("30: no round more", x.rounds(0), round);
+                x.close(first + open);
+                if (round < 5) {
+                    Check.same("29: none is open", x.round(0, 0), first + size);
+                } else {
+                    Check.refuses("29: the round 5 was made", SUPPORT, x, () -> x.round(0, 0));
+                }
+            }
+        }
+    }
+
+    /** "the first minute of all of them, 0 to 99939", "30 minutes each". */
+    private static void minutesOfRounds() {
+        for (int first : new int[] {0, 1, 4711, 99939}) {
+            Prioritywave x = tour(12);
+            x.event(0);
+            for (int heat = 0; heat < 15; heat++) {
+                if (heat % 4 == 0 && heat < 14 || heat == 14) {
+                    x.round(0, first);
+                }
+                int number = heat;
+                int surfer = x.surferAt(heat, 0);
+                Check.refuses("29: a minute ahead", SUPPORT, x, () -> x.block(number, surfer, first - 1));
+                Check.same("29: the first minute", x.block(number, surfer, first), -1);
+                Check.refuses("29: behind thirty minutes", SUPPORT, x, () -> x.block(number, surfer, first + 30));
+                Check.same("29: the thirtieth minute", x.block(number, surfer, first + 29), -1);
+                closeLast(x, heat);
+            }
+        }
+    }
+
+    /** Closes the heats of the round that ends with this one. */
+    private static void closeLast(Prioritywave x, int heat) {
+        int first = heat == 13 ? 12 : heat == 14 ? 14 : heat % 4 == 3 ? heat - 3 : heat + 1;
+        for (int number = first; number <= heat; number++) {
+            x.close(number);
+        }
+    }
+
+    /** "As the last heat of an event is closed, its surfers have points", "0 if it is not over". */
+    private static void pointsAtTheEnd() {
+        Prioritywave x = tour(13);
+        x.event(0);
+        for (int heat = 0; heat < 15; heat++) {
+            if (heat % 4 == 0 && heat < 14 || heat == 14) {
+                x.round(0, 0);
+            }
+            for (int surfer = 0; surfer < 13; surfer++) {
+                Check.same("33: not over", x.eventPoints(0, surfer), 0);
+            }
+            x.close(heat);
+        }
+        points(x, 10000, 7800, 6085, 6085, 4745, 4745, 4745, 4745, 3320, 3320, 3320, 3320, 0);
+    }
+
+    /** "all others are cut for good, and in no event made later": but in one that was made before. */
+    private static void cutWhileItGoes() {
+        Prioritywave x = tour(14);
+        x.event(0);
+        Check.same("37: all but one", x.cut(1), 13);
+        x.round(0, 0);
+        who("29: who is cut stays in the event", x, 0, 0, 7, 8);
+        for (int heat = 0; heat < 4; heat++) {
+            x.close(heat);
+        }
+        x.round(0, 0);
+        who("29: in the round 2 too", x, 4, 7, 11);
+        for (int round = 2; round <= 5; round++) {
+            int size = round < 4 ? 4 : round == 4 ? 2 : 1;
+            for (int index = 0; index < size; index++) {
+                x.close(x.heatOf(0, round, index));
+            }
+            if (round < 5) {
+                x.round(0, 0);
+            }
+        }
+        points(x, 10000, 7800, 6085, 6085, 4745, 4745, 4745, 4745, 3320, 3320, 3320, 3320, 0, 0);
+        Check.refuses("28: one is not cut", SUPPORT, x, () -> x.event(0));
+    }
+
+    private static void heatsBegunAnew() {
+        Prioritywave x = tour(12);
+        x.event(0);
+        x.round(0, 100);
+        x.suspend(0, 0, 105);
+        Check.yes("16: a heat of an event", x.restart(0, 110));
+        Check.same("16: for 30 minutes", x.block(0, 0, 139), -1);
+        Check.refuses("16: for no longer", SUPPORT, x, () -> x.block(0, 0, 140));
+        Check.same("16: the others begin as told", x.block(1, 1, 100), -1);
     }
 }

@@ -3,6 +3,7 @@ import java.lang.reflect.Method;
 import java.util.HashMap;
 import java.util.Map;
 import java.util.Random;
+import java.util.Set;
 import java.util.TreeMap;
 
 /** Tells long runs of calls to the program and to the model, and asks both for each answer. */
@@ -10,6 +11,9 @@ final class ModelTest {
     private static final int CALLS = 512;
     private static final Map<String, Method> OF_PROGRAM = methodsOf(Prioritywave.class);
     private static final Map<String, Method> OF_MODEL = methodsOf(Model.class);
+    /** What changes something, if it is not refused; all else is a question. */
+    private static final Set<String> CHANGES = Set.of("swell", "bank", "surfer", "heat", "ride", "mark", "wipe", "miss",
+            "block", "suspend", "leave", "restart", "close", "event", "round", "drop", "cut");
     /** Which answers were seen, so that no call is tested by its refusals alone. */
     private static final Map<String, Integer> SEEN = new TreeMap<>();
 
@@ -77,7 +81,15 @@ final class ModelTest {
             return null;
         }
         calls++;
+        boolean isWatched = seed % 20 == 7;
+        long before = isWatched ? State.of(program) : 0;
         Object got = answer(OF_PROGRAM.get(name), program, arguments);
+        boolean mayChange = !(got instanceof Class) && CHANGES.contains(name);
+        if (isWatched && !mayChange && State.of(program) != before) {
+            isSame = false;
+            System.out.println("run " + seed + ", call " + calls + ": " + name
+                    + java.util.Arrays.toString(arguments) + " answered " + got + " and changed something");
+        }
         Object due = answer(OF_MODEL.get(name), model, arguments);
         if (!got.equals(due)) {
             isSame = false;

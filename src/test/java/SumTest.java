@@ -18,6 +18,11 @@ final class SumTest {
         unsoundActs();
         unsoundRanks();
         unsoundPoints();
+        checksumOfAll();
+        everyShare();
+        meansOfMany();
+        soundAgain();
+        unsoundSlots();
     }
 
     private static void checksums() {
@@ -62,7 +67,7 @@ final class SumTest {
 
     private static void openShares() {
         Prioritywave x = HeatTest.withSurfers(2);
-        Check.refuses("40: no heats", ARITHMETIC, () -> x.openShare());
+        Check.refuses("40: no heats", ARITHMETIC, x, () -> x.openShare());
         x.heat(0, 0, 10, 3);
         Check.sameDouble("40: one of one", x.openShare(), 1.0f);
         x.close(0);
@@ -76,13 +81,13 @@ final class SumTest {
 
     private static void meanScores() {
         Prioritywave x = HeatTest.withSurfers(3);
-        Check.refuses("41: no heat", INDEX, () -> x.meanScore(0));
+        Check.refuses("41: no heat", INDEX, x, () -> x.meanScore(0));
         x.heat(0, 0, 60, 7);
-        Check.refuses("41: no heat 1", INDEX, () -> x.meanScore(1));
-        Check.refuses("41: no heat -1", INDEX, () -> x.meanScore(-1));
-        Check.refuses("41: no scores", ARITHMETIC, () -> x.meanScore(0));
+        Check.refuses("41: no heat 1", INDEX, x, () -> x.meanScore(1));
+        Check.refuses("41: no heat -1", INDEX, x, () -> x.meanScore(-1));
+        Check.refuses("41: no scores", ARITHMETIC, x, () -> x.meanScore(0));
         x.miss(0, 0, 0);
-        Check.refuses("41: acts, but no scores", ARITHMETIC, () -> x.meanScore(0));
+        Check.refuses("41: acts, but no scores", ARITHMETIC, x, () -> x.meanScore(0));
         RankTest.ride(x, 0, 5, 0, false);
         Check.sameDouble("41: a score of 0", x.meanScore(0), 0.0);
         RankTest.ride(x, 0, 10, 501, false);
@@ -193,6 +198,116 @@ final class SumTest {
             field(object, name).set(object, value);
         } catch (IllegalAccessException wrong) {
             throw new IllegalStateException(wrong);
+        }
+    }
+
+    /** "31 times itself plus what this one counts, then 31 times itself plus the place in the row .. plus 3". */
+    private static void checksumOfAll() {
+        Prioritywave x = RangeTest.everyMinute(4);
+        java.math.BigInteger sum = java.math.BigInteger.valueOf(7);
+        for (int heat = 0; heat < 40; heat++) {
+            x.heat(0, 0, 60, heat % 2 == 0 ? 15 : 13);
+            x.ride(heat, 2, heat % 5, 0, false);
+            if (heat % 3 == 0) {
+                x.leave(heat, 3, heat % 5);
+            }
+            for (int index = 0; index < (heat % 2 == 0 ? 4 : 3); index++) {
+                int surfer = x.surferAt(heat, index);
+                int place = surfer == 3 && heat % 3 == 0 ? -2 : surfer == 2 ? 0 : -1;
+                if (heat % 6 == 3) {
+                    // Of three one has left and one rode, so that the last one is put ahead.
+                    place = surfer == 3 ? -2 : surfer == 2 ? 1 : 0;
+                }
+                sum = plus(plus(sum, surfer == 2 ? 500 : 0), place + 3);
+            }
+            Check.same("39: of " + (heat + 1) + " heats", x.checksum(), sum.longValue());
+        }
+        Check.yes("39: far above the greatest long", sum.bitLength() > 1000);
+    }
+
+    private static java.math.BigInteger plus(java.math.BigInteger sum, int more) {
+        return sum.multiply(java.math.BigInteger.valueOf(31)).add(java.math.BigInteger.valueOf(more));
+    }
+
+    /** "their number divided by that of all, both converted to float": of one to seven heats none to all closed. */
+    private static void everyShare() {
+        for (int all = 1; all <= 7; all++) {
+            Prioritywave x = HeatTest.withSurfers(2);
+            for (int i = 0; i < all; i++) {
+                x.heat(0, 0, 10, 3);
+            }
+            for (int closed = 0; closed <= all; closed++) {
+                Check.sameDouble("40: open of " + all, x.openShare(), (float) (all - closed) / (float) all);
+                if (closed < all) {
+                    x.close(all - 1 - closed);
+                }
+            }
+        }
+    }
+
+    private static void meansOfMany() {
+        Prioritywave x = RangeTest.everyMinute(2);
+        x.heat(0, 0, 60, 3);
+        x.wipe();
+        for (int i = 0; i < 7; i++) {
+            x.mark(i < 3 ? 0 : 1000);
+        }
+        double sum = 0;
+        for (int minute = 0; minute < 60; minute++) {
+            int surfer = minute % 2;
+            sum += x.ride(0, surfer, minute, minute % 3, false);
+            Check.sameDouble("41: of " + (minute + 1), x.meanScore(0), sum / (minute + 1));
+        }
+    }
+
+    /** Acts are told anew at each question, those of each heat by themselves, and those of a heat begun anew. */
+    private static void soundAgain() {
+        Prioritywave x = RangeTest.everyMinute(4);
+        for (int heat = 0; heat < 3; heat++) {
+            x.heat(0, 0, 60, 15);
+            x.suspend(heat, 3, 0);
+            x.ride(heat, 0, 0, 0, false);
+            x.ride(heat, 3, 0, 0, true);
+            Check.same("23: one by p", x.hindered(heat, 3, 'p'), 1);
+            for (int times = 0; times < 3; times++) {
+                Check.yes("42: sound again", x.isSound());
+            }
+        }
+        x.heat(0, 0, 60, 7);
+        x.suspend(3, 0, 0);
+        x.leave(3, 1, 0);
+        x.restart(3, 0);
+        Check.yes("42: begun anew", x.isSound());
+        x.suspend(3, 2, 0);
+        Check.yes("42: begun anew, with an act", x.isSound());
+        x.suspend(3, 1, 0);
+        x.ride(3, 0, 1, 0, false);
+        x.ride(3, 1, 1, 0, true);
+        Check.yes("42: begun anew, with rides", x.isSound());
+        for (int heat = 0; heat < 4; heat++) {
+            x.close(heat);
+            Check.yes("42: closed", x.isSound());
+        }
+    }
+
+    /** A row that is not what the acts make of it, for each surfer of each heat. */
+    private static void unsoundSlots() {
+        Prioritywave x = RangeTest.everyMinute(4);
+        for (int heat = 0; heat < 40; heat++) {
+            x.heat(0, 0, 60, 15);
+            x.suspend(heat, heat % 4, 0);
+        }
+        for (int heat = 0; heat < 40; heat += 13) {
+            int[] places = (int[]) of(of(of(at(of(x, "heats"), heat), "course"), "row"), "places");
+            for (int slot = 0; slot < 4; slot++) {
+                int before = places[slot];
+                for (int wrong = -2; wrong <= 3; wrong++) {
+                    places[slot] = wrong;
+                    Check.same("42: the place " + wrong + " for " + before, x.isSound() ? 1 : 0,
+                            wrong == before ? 1 : 0);
+                }
+                places[slot] = before;
+            }
         }
     }
 }

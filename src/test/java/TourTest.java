@@ -20,13 +20,16 @@ final class TourTest {
         cuts();
         cutForGood();
         refusals();
+        seedsByAll();
+        cutSeedsOfPoints();
+        pointsOfWhoIsCut();
     }
 
     private static void drops() {
         Prioritywave x = new Prioritywave();
         Check.same("34: none at first", x.drop(3), 0);
-        Check.refuses("34: -1", ARGUMENT, () -> x.drop(-1));
-        Check.refuses("34: 4", ARGUMENT, () -> x.drop(4));
+        Check.refuses("34: -1", ARGUMENT, x, () -> x.drop(-1));
+        Check.refuses("34: 4", ARGUMENT, x, () -> x.drop(4));
         Check.same("34: three before", x.drop(0), 3);
         Check.same("34: none before", x.drop(1), 0);
         Check.same("34: one before", x.drop(1), 1);
@@ -121,8 +124,8 @@ final class TourTest {
         for (int rank = 0; rank < due.length; rank++) {
             Check.same("36: by the year before, then by numbers", x.seed(rank), due[rank]);
         }
-        Check.refuses("36: no seed 4", ELEMENT, () -> x.seed(4));
-        Check.refuses("36: no seed -1", ELEMENT, () -> x.seed(-1));
+        Check.refuses("36: no seed 4", ELEMENT, x, () -> x.seed(4));
+        Check.refuses("36: no seed -1", ELEMENT, x, () -> x.seed(-1));
         x.surfer(6);
         Check.same("36: at each moment", x.seed(2), 4);
     }
@@ -176,18 +179,82 @@ final class TourTest {
 
     private static void refusals() {
         Prioritywave x = new Prioritywave();
-        Check.refuses("35: no surfer", INDEX, () -> x.points(0));
-        Check.refuses("38: no surfer", INDEX, () -> x.isCut(0));
+        Check.refuses("35: no surfer", INDEX, x, () -> x.points(0));
+        Check.refuses("38: no surfer", INDEX, x, () -> x.isCut(0));
         Check.same("37: nobody to cut", x.cut(1), 0);
         x.surfer(1);
         x.surfer(2);
-        Check.refuses("35: surfer -1", INDEX, () -> x.points(-1));
-        Check.refuses("35: surfer 2", INDEX, () -> x.points(2));
-        Check.refuses("38: surfer -1", INDEX, () -> x.isCut(-1));
-        Check.refuses("38: surfer 2", INDEX, () -> x.isCut(2));
-        Check.refuses("37: 0", ARGUMENT, () -> x.cut(0));
-        Check.refuses("37: 17", ARGUMENT, () -> x.cut(17));
-        Check.refuses("37: negative", ARGUMENT, () -> x.cut(Integer.MIN_VALUE));
+        Check.refuses("35: surfer -1", INDEX, x, () -> x.points(-1));
+        Check.refuses("35: surfer 2", INDEX, x, () -> x.points(2));
+        Check.refuses("38: surfer -1", INDEX, x, () -> x.isCut(-1));
+        Check.refuses("38: surfer 2", INDEX, x, () -> x.isCut(2));
+        Check.refuses("37: 0", ARGUMENT, x, () -> x.cut(0));
+        Check.refuses("37: 17", ARGUMENT, x, () -> x.cut(17));
+        Check.refuses("37: negative", ARGUMENT, x, () -> x.cut(Integer.MIN_VALUE));
         Check.no("38: refused cuts cut nobody", x.isCut(0));
+    }
+
+    /** "by the points of the tour, more first, then by those of the year before, more first, then by lower numbers". */
+    private static void seedsByAll() {
+        Prioritywave x = HeatTest.withSurfers(0);
+        int[] years = {7, 9, 9, 7, 7, 9, 0, 0, 0, 0, 0, 99999, 99999, 3};
+        for (int year : years) {
+            x.surfer(year);
+        }
+        seeds(x, "by the year before", 11, 12, 1, 2, 5, 0, 3, 4, 13, 6, 7, 8, 9, 10);
+        x.event(0);
+        seeds(x, "an event alone changes nothing", 11, 12, 1, 2, 5, 0, 3, 4, 13, 6, 7, 8, 9, 10);
+        for (int round = 1; round <= 5; round++) {
+            int size = round < 4 ? 4 : round == 4 ? 2 : 1;
+            int[] winners = new int[size];
+            java.util.Arrays.fill(winners, 1);
+            EventTest.closeWith(x, x.round(0, 0), 0, winners);
+        }
+        int before = 20000;
+        for (int seed = 0; seed < years.length; seed++) {
+            int surfer = x.seed(seed);
+            Check.yes("36: more points first", x.points(surfer) <= before);
+            if (seed > 0 && x.points(surfer) == before) {
+                int ahead = x.seed(seed - 1);
+                Check.yes("36: more of the year before first, then the lower number", years[ahead] > years[surfer]
+                        || years[ahead] == years[surfer] && ahead < surfer);
+            }
+            before = x.points(surfer);
+        }
+        Check.same("36: the winner", x.points(x.seed(0)), 10000);
+        Check.no("36: who was the first seed", x.seed(0) == 11);
+        x.drop(1);
+        seeds(x, "with the event dropped", 11, 12, 1, 2, 5, 0, 3, 4, 13, 6, 7, 8, 9, 10);
+    }
+
+    private static void seeds(Prioritywave x, String what, int... due) {
+        for (int seed = 0; seed < due.length; seed++) {
+            Check.same("36: seed " + seed + ", " + what, x.seed(seed), due[seed]);
+        }
+    }
+
+    /** "A cut keeps the first ones of all seeds": by the seeds as they are, with what is dropped. */
+    private static void cutSeedsOfPoints() {
+        for (int dropped = 0; dropped <= 1; dropped++) {
+            Prioritywave x = EventTest.tour(12);
+            x.event(0);
+            EventTest.whole(x, 0);
+            x.surfer(99999);
+            x.drop(dropped);
+            Check.same("37: twelve are cut", x.cut(1), 12);
+            Check.same("38: the one ahead in points of the tour", x.isCut(0) ? 1 : 0, dropped);
+            Check.same("38: the one ahead in the year before", x.isCut(12) ? 1 : 0, 1 - dropped);
+        }
+    }
+
+    private static void pointsOfWhoIsCut() {
+        Prioritywave x = EventTest.tour(12);
+        x.event(0);
+        EventTest.whole(x, 0);
+        x.cut(1);
+        Check.yes("38: the second seed", x.isCut(1));
+        Check.same("35: keeps points", x.points(1), 7800);
+        Check.same("33: of the event too", x.eventPoints(0, 1), 7800);
+        Check.same("36: and the seed", x.seed(1), 1);
     }
 }

@@ -1103,22 +1103,18 @@ public final class Prioritywave {
             return NONE;
         }
 
-        /** More score is never a worse rank, so the least one is found by halves. */
+        /** More score is never a worse rank, so the scores that do not do are all below those that do. */
         int neededFor(int slot, int rank) {
             if (rankAfter(slot, GREATEST_MARK) > rank) {
                 return NONE;
             }
-            int low = 0;
-            int high = GREATEST_MARK;
-            while (low < high) {
-                int middle = (low + high) / 2;
-                if (rankAfter(slot, middle) <= rank) {
-                    high = middle;
-                } else {
-                    low = middle + 1;
+            int failing = 0;
+            for (int step = 512; step > 0; step /= 2) {
+                if (failing + step <= GREATEST_MARK && rankAfter(slot, failing + step - 1) > rank) {
+                    failing += step;
                 }
             }
-            return low;
+            return failing;
         }
 
         long addedTo(long sum) {
@@ -1472,7 +1468,7 @@ public final class Prioritywave {
             int cut = 0;
             for (int rank = kept; rank < surferCount; rank++) {
                 int surfer = seeds[rank];
-                if (!isOff[surfer]) {
+                if (hasSurfer(surfer) && !isOff[surfer]) {
                     isOff[surfer] = true;
                     cut++;
                 }
@@ -1504,8 +1500,9 @@ public final class Prioritywave {
             int[] field = new int[EVENT_SURFERS];
             int found = 0;
             for (int rank = 0; rank < surferCount; rank++) {
-                if (!isOff[seeds[rank]] && found < field.length) {
-                    field[found] = seeds[rank];
+                int surfer = seeds[rank];
+                if (!isOff(surfer) && found < field.length) {
+                    field[found] = surfer;
                     found++;
                 }
             }
@@ -1539,6 +1536,9 @@ public final class Prioritywave {
 
         /** Seeds are put in by rising numbers, so of two who are alike the one put in before stays ahead. */
         private boolean isAhead(int surfer, int before) {
+            if (!hasSurfer(surfer) || !hasSurfer(before)) {
+                return false;
+            }
             if (points[surfer] != points[before]) {
                 return points[surfer] > points[before];
             }

@@ -20,6 +20,7 @@ public final class AllTests {
         FaceTest.run();
         LanguageTest.run(java.nio.file.Path.of("src/main/java/Prioritywave.java"));
         SentenceTest.run(java.nio.file.Path.of("../shared/DOC.md"), java.nio.file.Path.of("src/test/SENTENCES.md"));
+        ReadmeTest.run(java.nio.file.Path.of("README.md"), java.nio.file.Path.of("src/test/java"));
         MachineTest.run();
         ModelTest.run(args.length > 0 ? Integer.parseInt(args[0]) : 1000);
         System.out.println(Check.passed() + " passed, " + Check.failed() + " failed");

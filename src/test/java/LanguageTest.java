@@ -11,12 +11,18 @@ final class LanguageTest {
         "\\bpackage\\b", "\\bcatch\\b", "\\btry\\b", "\\bfinally\\b", "->", "::", "\\bassert\\b", "\\bsynchronized\\b",
         "\\bstatic \\{", "\\binstanceof\\b", "\\bprotected\\b", "\\bNaN\\b", "Exact\\(", "\" \\+", "\\+ \"",
         "\\bSystem\\.(?!arraycopy)", "\\bString\\b", "\\bObject\\b", "\\bRandom\\b", "\\bThread\\b",
-        "\\bequals\\(", "\\bhashCode\\(", "\\btoString\\(", "\\bMath\\.(?!abs|max|min)", "\\bwhile \\(true\\)",
+        "\\bequals\\(", "\\bhashCode\\(", "\\btoString\\(", "\\bMath\\.(?!abs|max|min)", "\\bdo \\{", "\\[\\w+\\[",
     };
     private static final Pattern THROWN = Pattern.compile("throw new (\\w+)");
     private static final List<String> MAY_BE_THROWN = List.of("IllegalStateException", "IllegalArgumentException",
             "IndexOutOfBoundsException", "ArithmeticException", "UnsupportedOperationException",
             "NoSuchElementException");
+
+    private static final Pattern LOOP = Pattern.compile("\\b(?:for|while) \\((.*)\\) \\{");
+    /** A counter that rises to a bound, one that is halved or falls to 0, and the chain of a heat's acts. */
+    private static final Pattern BOUNDED = Pattern.compile("int (\\w+) = [^;]+; \\1 <=? [^;]+; \\1\\+\\+"
+            + "|int (\\w+) = [^;]+; \\2 > 0; \\2 /= 2|at > 0 && .*"
+            + "|Act (\\w+) = firstAct; \\3 != null; \\3 = \\3\\.next");
 
     private LanguageTest() {
     }
@@ -45,6 +51,21 @@ final class LanguageTest {
                     imported.group(1).equals("java.util.NoSuchElementException"));
         }
         methods(lines);
+        loops(lines);
+    }
+
+    private static void loops(List<String> lines) {
+        int found = 0;
+        for (int i = 0; i < lines.size(); i++) {
+            Matcher loop = LOOP.matcher(lines.get(i));
+            if (loop.find()) {
+                found++;
+                Check.yes("its end is seen: " + lines.get(i), BOUNDED.matcher(loop.group(1)).matches());
+                boolean isFalling = !loop.group().startsWith("while") || lines.get(i + 2).strip().equals("at--;");
+                Check.yes("its counter falls: " + lines.get(i), isFalling);
+            }
+        }
+        Check.yes("loops are found", found > 40);
     }
 
     private static void methods(List<String> lines) {
